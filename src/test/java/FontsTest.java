@@ -13,6 +13,7 @@ public final class FontsTest {
         passEndsRights();
         passTakesDayByDay();
         passCountsSheets();
+        sixteenSheetsAreSentBack();
         today();
         mayUse();
         due.end();
@@ -174,6 +175,19 @@ public final class FontsTest {
             int one = sheet;
             due.answers("19: isReady(" + one + ")", 0, () -> Due.bit(desk.isReady(one)));
         }
+    }
+
+    private static void sixteenSheetsAreSentBack() {
+        ProofSheet desk = new ProofSheet();
+        for (int place = 0; place < 64; place++) {
+            desk.insert(place, 64, 0);
+        }
+        desk.setRight(6, 0, 0);
+        due.answers("19: all sheets of 64 pages", 16, () -> desk.pass(1));
+        desk.setRight(6, 0, 9);
+        due.answers("18: all sheets of 64 pages", 16, () -> desk.withdraw(6));
+        desk.setRight(6, 0, 9);
+        due.answers("17: all sheets of 64 pages", 16, () -> desk.setRight(6, 9, 9));
     }
 
     private static void today() {

@@ -133,6 +133,23 @@ public final class PagesTest {
             });
         }
         due.answers("4: pages()", 5, () -> desk.pages());
+        moveInFullDesk();
+    }
+
+    private static void moveInFullDesk() {
+        ProofSheet desk = Due.deskWith(63, 0);
+        desk.insert(63, 0, 7);
+        due.answers("4: to the start of 64", 0, () -> {
+            desk.move(63, 0);
+            return 0;
+        });
+        due.answers("4: it stands there", ProofSheet.NONE, () -> desk.proof(0, 2));
+        due.answers("4: to the end of 64", 0, () -> {
+            desk.move(0, 63);
+            return 0;
+        });
+        due.answers("4: it stands there", ProofSheet.NONE, () -> desk.proof(63, 2));
+        due.answers("4: not there any more", -1, () -> desk.proof(0, 2));
     }
 
     private static void edit() {

@@ -4,6 +4,7 @@ public final class PlatesTest {
 
     public static void main(String[] args) {
         makePlates();
+        makePlatesOfManyPages();
         makePlatesRefuses();
         platesAreMadeAnew();
         wear();
@@ -55,6 +56,20 @@ public final class PlatesTest {
         wearIs("26: no page is on that side", desk, 1, 0, 3, -1);
         due.answers("26: a sheet without colours", 0, () -> readyDesk(4, 0).makePlates(0));
         due.answers("26: all plates of a sheet", 8, () -> readyDesk(4, 15).makePlates(0));
+    }
+
+    private static void makePlatesOfManyPages() {
+        ProofSheet large = readyDesk(32, 1);
+        large.setFolds(4, 27);
+        due.answers("26: 16 pages on a side", 2, () -> large.makePlates(0));
+        wearIs("26: 16 pages on a side", large, 0, 1, 0, 0);
+        large.move(31, 30);
+        wearIs("26: the last two have changed sides", large, 0, 0, 0, -1);
+        ProofSheet many = Due.deskWith(64, 8);
+        Due.approveAll(many, 60, 63);
+        due.answers("26: the last of 16 sheets", 2, () -> many.makePlates(15));
+        due.answers("28: the last of 16 sheets", 9, () -> many.print(15, 9));
+        wearIs("26: the last of 16 sheets", many, 15, 1, 3, 9);
     }
 
     private static void makePlatesRefuses() {

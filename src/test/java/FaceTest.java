@@ -6,16 +6,23 @@ import java.util.HashSet;
 import java.util.Set;
 import java.util.TreeSet;
 
-/** The public face: the members of the document, and no other. */
+/** The public face: the members of the document, with what they may throw, and no other. */
 public final class FaceTest {
+    /** Behind each method stand the exceptions that it tells, in their order, without the end that all names have. */
     private static final String[] METHODS = {
-        "int insert(int,int,int)", "int remove(int)", "void move(int,int)", "int edit(int,int,int)",
-        "int replace(int,int)", "int pages()", "int edition(int)", "int setFolds(int,int)", "int sheets()",
-        "int rows()", "int columns()", "int pageAt(int,int,int,int)", "int pageByRule(int,int,int,int)",
-        "int leafOf(int)", "boolean isTurned(int)", "int setRight(int,int,int)", "int withdraw(int)",
-        "int pass(int)", "int today()", "boolean mayUse(int)", "int prove(int,int)",
-        "boolean judge(int,int,boolean)", "int proof(int,int)", "boolean isReady(int)", "int makePlates(int)",
-        "int wear(int,int,int)", "int print(int,int)", "int plates()"};
+        "int insert(int,int,int) IndexOutOfBounds IllegalArgument IllegalState", "int remove(int) IndexOutOfBounds",
+        "void move(int,int) IndexOutOfBounds", "int edit(int,int,int) IndexOutOfBounds IllegalArgument",
+        "int replace(int,int) IllegalArgument", "int pages()", "int edition(int) IndexOutOfBounds",
+        "int setFolds(int,int) IllegalArgument", "int sheets()", "int rows()", "int columns()",
+        "int pageAt(int,int,int,int) IndexOutOfBounds IllegalArgument",
+        "int pageByRule(int,int,int,int) IndexOutOfBounds IllegalArgument", "int leafOf(int) IndexOutOfBounds",
+        "boolean isTurned(int) IndexOutOfBounds", "int setRight(int,int,int) IllegalArgument",
+        "int withdraw(int) IllegalArgument IllegalState", "int pass(int) IllegalArgument", "int today()",
+        "boolean mayUse(int) IllegalArgument", "int prove(int,int) IndexOutOfBounds IllegalArgument IllegalState",
+        "boolean judge(int,int,boolean) IndexOutOfBounds IllegalArgument IllegalState",
+        "int proof(int,int) IndexOutOfBounds IllegalArgument", "boolean isReady(int) IndexOutOfBounds",
+        "int makePlates(int) IndexOutOfBounds IllegalState", "int wear(int,int,int) IndexOutOfBounds IllegalArgument",
+        "int print(int,int) IndexOutOfBounds IllegalArgument IllegalState", "int plates()"};
     private static final String[] CONSTANTS = {
         "RIGHT=0", "LEFT=1", "BOTTOM=2", "TOP=3", "NONE=0", "MADE=1", "APPROVED=2", "REFUSED=3"};
 
@@ -61,7 +68,11 @@ public final class FaceTest {
             text.append(comma).append(type.getName());
             comma = ",";
         }
-        return text.append(')').toString();
+        text.append(')');
+        for (Class<?> type : method.getExceptionTypes()) {
+            text.append(' ').append(type.getSimpleName().replaceAll("Exception$", ""));
+        }
+        return text.toString();
     }
 
     private static void constants() throws IllegalAccessException {
